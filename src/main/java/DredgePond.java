@@ -266,7 +266,6 @@ public final class DredgePond {
         private final int[] least;
         private final int[] greatest;
         private int gradient = NO_GRADE;
-        private boolean stale = true;
 
         Ground(int rows, int places) {
             this.rows = rows;
@@ -279,6 +278,7 @@ public final class DredgePond {
             for (int i = 0; i < squares; i++) {
                 depths[i] = 3;
                 tins[i] = NONE;
+                greatest[i] = MOST_TIN;
             }
         }
 
@@ -306,21 +306,19 @@ public final class DredgePond {
 
         void tell(int row, int place, int tin) {
             tins[row * places + place] = tin;
-            stale = true;
+            narrowAll();
         }
 
         void slope(int g) {
             gradient = g;
-            stale = true;
+            narrowAll();
         }
 
         int leastAt(int row, int place) {
-            narrowAll();
             return least[row * places + place];
         }
 
         int greatestAt(int row, int place) {
-            narrowAll();
             return greatest[row * places + place];
         }
 
@@ -329,7 +327,6 @@ public final class DredgePond {
         }
 
         int quarrels() {
-            narrowAll();
             int found = 0;
             for (int i = 0; i < least.length; i++) {
                 if (least[i] > greatest[i]) {
@@ -360,10 +357,6 @@ public final class DredgePond {
         }
 
         private void narrowAll() {
-            if (!stale) {
-                return;
-            }
-            stale = false;
             openSpans();
             // Two sweeps are enough: between any two SQUARES there is a shortest way whose steps down
             // and right all come ahead of those up and left.

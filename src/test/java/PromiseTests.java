@@ -391,6 +391,12 @@ public final class PromiseTests {
         y.dig(0, 1);
         y.dig(0, 1);
         due("8 no ROW left", y.next(), NONE);
+        DredgePond z = new DredgePond(3, 2);
+        z.grade(100);
+        z.bore(0, 0, 950);
+        z.bore(1, 0, 850);
+        // (0,1) 850 to 950, (1,1) 750 to 950, (2,0) the same, (2,1) 650 to 1,000
+        due("8 widest, not highest", z.next(), 17);
     }
 
     private static void nextInQuarrel() {
@@ -455,8 +461,9 @@ public final class PromiseTests {
         x.depth(1, 1, 2);
         x.depth(2, 0, 9);
         x.depth(2, 1, 9);
-        Check.law(x, "bank 1;");
+        Check.law(x, "bank 0;");
         due("9 no bank ahead of the first", x.bars(0), 0);
+        Check.law(x, "bank 1;");
         x.dig(0, 5);
         due("9 deeper by 2", x.bars(0), 3);
         due("9 shallower by 2", x.bars(1), 3);
@@ -853,6 +860,8 @@ public final class PromiseTests {
         due("16 the last level", x.tells(0, 0), 7);
         due("16 the last level", x.tells(0, 1), 8);
         due("16 blanks alone", Check.law(x, "   \n\n   "), 4);
+        due("16 as usual without a statement", x.tells(0, 0), 50);
+        due("16 as usual without a statement", x.tells(0, 1), 200);
     }
 
     // ---- 17
@@ -862,18 +871,26 @@ public final class PromiseTests {
             "5;", "fine 5; 6", "fine fine;", "fine ;", "fine 5 5;", "fine 5 to;", "level 5 to 6", "level 5 too 6;",
             "level 5 to to", "level 5 t", "level 5 6;", "level 5 to 12345;", "bank 5;;", "Bank 5;", "bank 5,", "bank\t5;",
             "bank 5;\r", "bank \u00ff", "bank 5;back", "levels 5 to 6;", "to 5;", "bank -5;", "bank 5.", "bank 12a;",
-            "`", "{", "/", ":", "bank 00001;", "bank 5; \u0000", "level 5 to 6 to 7;", "level"};
+            "`", "{", "/", ":", "bank 00001;", "bank 5; \u0000", "level 5 to 6 to 7;", "level",
+            "sank 5;", "bask 5;", "ban 5;", "banks 5;", "level 5 so 6;"};
         int[] places = {7, 0, 5, 7, 9, 4, 5, 0, 1,
             0, 8, 5, 5, 7, 7, 12, 8,
             11, 8, 8, 11, 7, 0, 6, 4,
             7, 5, 11, 0, 0, 5, 6, 7,
-            0, 0, 0, 0, 5, 8, 13, 5};
+            0, 0, 0, 0, 5, 8, 13, 5,
+            0, 0, 0, 0, 8};
         due("17 as many", texts.length, places.length);
         DredgePond x = new DredgePond(2, 2);
         for (int i = 0; i < texts.length; i++) {
             due("16 fault in " + texts[i], Check.law(x, texts[i]), NONE);
             due("17 fault in " + texts[i], x.fault(), places[i]);
         }
+        Check.feed(x, "fine 555;");
+        due("16 cut in a number", x.law(6), NONE);
+        due("17 the text's length", x.fault(), 6);
+        Check.feed(x, "fine 5;");
+        due("16 cut in a word", x.law(3), NONE);
+        due("17 the word", x.fault(), 0);
         due("20 no laws", x.count(11), 0);
         due("18 no law", x.tells(0, 7), NONE);
     }
