@@ -1002,21 +1002,6 @@ public final class PromiseTests {
         due("19 cut", x.month(1, 1), 2);
         Check.law(x, "royalty 0;");
         due("19 none", x.month(1, 1), 0);
-        DredgePond y = richestMonth();
-        due("19 the most", y.month(0, 0), 180000);
-        due("19 the most", y.month(0, 1), 1799820);
-    }
-
-    private static DredgePond richestMonth() {
-        DredgePond y = new DredgePond(20, 2);
-        y.jig(0);
-        Check.law(y, "clear 9999; royalty 9999;");
-        for (int row = 0; row < 20; row++) {
-            y.depth(row, 0, 9);
-            y.dig(0, 1000);
-            y.day(3);
-        }
-        return y;
     }
 
     // ---- 20
