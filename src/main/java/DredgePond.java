@@ -757,23 +757,21 @@ public final class DredgePond {
             return kind == END ? NONE : start;
         }
 
-        // Each of the next three stops at the token with which the law doesn't go on.
+        // Each of the next two stops at the token with which the law doesn't go on.
 
         private boolean readStatement() {
             int what = keyword();
             if (what == NONE || !readNumber(what)) {
                 return false;
             }
-            if (what == LawBook.LEAST && !readGreatest()) {
-                return false;
+            if (what == LawBook.LEAST) {
+                scan();
+                if (!isWord("to") || !readNumber(LawBook.GREATEST)) {
+                    return false;
+                }
             }
             scan();
             return kind == SEMICOLON;
-        }
-
-        private boolean readGreatest() {
-            scan();
-            return isWord("to") && readNumber(LawBook.GREATEST);
         }
 
         private boolean readNumber(int what) {
